@@ -161,24 +161,35 @@ public final class PromiseTest {
         owners(x, 1, 0);
     }
 
-    /** After its 512 calls an object may answer what it likes, but still fails in no other way than the calls may. */
+    /** After its 512 calls an object may refuse what it likes, but no index may run out of an array. */
     private static void testFarTooManyCalls() {
         Trumpvault x = oneCardEach();
-        for (int round = 0; round < 2000; round++) {
-            int seller = round % 2;
+        for (int round = 0; round < 1000; round++) {
             try {
-                x.sell(x.owner(0) == seller ? 0 : 1, 1);
-                x.bid(1 - seller, seller, 1);
                 x.swap(2, 3);
                 x.agree(2);
-            } catch (IndexOutOfBoundsException e) {
-                wrong++;
-                System.out.println("a late call failed: " + e);
-                return;
-            } catch (IllegalStateException e) {
+            } catch (IllegalStateException refused) {
                 x.pass(1);
             }
         }
+    }
+
+    /** The last of the most cards takes part in everything. */
+    private static void testMostCards() {
+        Trumpvault x = new Trumpvault();
+        for (int card = 0; card < 30; card++) {
+            x.mint(card % 5, 7);
+        }
+        x.sell(29, 4);
+        due("leastSale of the last card", x.leastSale(7), 4);
+        due("bid that meets the last card", x.bid(0, 7, 4), 29);
+        x.lend(29, 1, 1);
+        x.pass(1);
+        due("holder of the last card lent", x.holder(29), 0);
+        x.sell(29, 4);
+        due("ban of the last card's kind", x.ban(7, 1), 1);
+        due("state of the last card banned", x.stateOf(29), FREE);
+        due("no sale is left of the most cards", x.leastSale(7), NONE);
     }
 
     // Promise 7
@@ -258,6 +269,22 @@ public final class PromiseTest {
         x.bid(0, 3, 9);
         x.sell(2, 9);
         due("the bid that stood longer buys", x.owner(2), 1);
+    }
+
+    /** Of sales of one price the one that was made earlier is met, whatever the numbers of the cards. */
+    private static void testSaleNumbers() {
+        Trumpvault x = alike();
+        x.sell(1, 9);
+        x.sell(3, 9);
+        x.sell(2, 9);
+        x.sell(4, 10);
+        due("bid that meets the first sale", x.bid(0, 3, 9), 1);
+        due("bid that meets the second sale", x.bid(0, 3, 9), 3);
+        x.sell(3, 10);
+        due("bid that meets the third sale", x.bid(0, 3, 10), 2);
+        x.cancelSale(4);
+        x.sell(4, 9);
+        due("bid that meets a cheaper sale made later", x.bid(1, 3, 10), 4);
     }
 
     private static void testSellBanned() {
@@ -611,6 +638,26 @@ public final class PromiseTest {
         due("a loan after its end", x.stateOf(2), FREE);
     }
 
+    /** Bans of all kinds begin on one day. */
+    private static void testPassToBansOfAllKinds() {
+        Trumpvault x = new Trumpvault();
+        for (int kind = 0; kind < 8; kind++) {
+            x.mint(0, kind);
+            x.sell(kind, 50);
+            x.bid(1, kind, 5);
+            x.ban(kind, 2);
+        }
+        x.pass(1);
+        due("coins before the bans", x.coins(1), 60);
+        x.pass(1);
+        due("coins after the bans", x.coins(1), 100);
+        for (int kind = 0; kind < 8; kind++) {
+            due("state after the bans", x.stateOf(kind), FREE);
+            due("leastSale after the bans", x.leastSale(kind), NONE);
+            due("greatestBid after the bans", x.greatestBid(kind), NONE);
+        }
+    }
+
     // Promises 22, 23 and 24
     private static void testToggleDeck() {
         Trumpvault x = new Trumpvault();
@@ -722,10 +769,12 @@ public final class PromiseTest {
         testCardQuestions();
         testLongHistory();
         testFarTooManyCalls();
+        testMostCards();
         testCoins();
         testSell();
         testSellMeetsBid();
         testBidNumbers();
+        testSaleNumbers();
         testSellBanned();
         testBid();
         testBidMeetsSale();
@@ -739,6 +788,7 @@ public final class PromiseTest {
         testBan();
         testLift();
         testPass();
+        testPassToBansOfAllKinds();
         testToggleDeck();
         testIsRight();
         testPlay();
