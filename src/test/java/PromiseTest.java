@@ -1,62 +1,10 @@
 /** For each promise: ordinary calls, the edges that the document names, and wrong calls. */
-public final class PromiseTest {
-    private static final int NONE = Trumpvault.NONE;
-    private static final int FREE = Trumpvault.FREE;
-    private static final int OFFERED = Trumpvault.OFFERED;
-    private static final int SWAPPING = Trumpvault.SWAPPING;
-    private static final int LENT = Trumpvault.LENT;
-    private static final Class<?> INDEX = IndexOutOfBoundsException.class;
-    private static final Class<?> ARGUMENT = IllegalArgumentException.class;
-    private static final Class<?> STATE = IllegalStateException.class;
-    private static final int[] WRONG_PLAYERS = {-1, 5, Integer.MIN_VALUE, Integer.MAX_VALUE};
-    private static final int[] WRONG_KINDS = {-1, 8, Integer.MIN_VALUE, Integer.MAX_VALUE};
-
-    private static int wrong = 0;
-
-    private interface Call {
-        void run();
+public final class PromiseTest extends Check {
+    private PromiseTest() {
     }
 
-    private static void due(String what, long got, long want) {
-        if (got != want) {
-            wrong++;
-            System.out.println(what + " answered " + got + ", due is " + want);
-        }
-    }
-
-    private static void due(String what, boolean got, boolean want) {
-        due(what, got ? 1 : 0, want ? 1 : 0);
-    }
-
-    private static void refused(String what, Class<?> want, Call call) {
-        Class<?> got = null;
-        try {
-            call.run();
-        } catch (RuntimeException e) {
-            got = e.getClass();
-        }
-        if (got != want) {
-            wrong++;
-            System.out.println(what + " threw " + got + ", due is " + want);
-        }
-    }
-
-    /** Cards 0 to 4 of the kinds 0 to 4, each of the player of its number. */
-    private static Trumpvault oneCardEach() {
-        Trumpvault x = new Trumpvault();
-        for (int player = 0; player < 5; player++) {
-            x.mint(player, player);
-        }
-        return x;
-    }
-
-    /** Cards 0 to 4, all of the kind 3, each of the player of its number. */
-    private static Trumpvault alike() {
-        Trumpvault x = new Trumpvault();
-        for (int player = 0; player < 5; player++) {
-            x.mint(player, 3);
-        }
-        return x;
+    private static void refused(String what, Class<?> want, Runnable call) {
+        refused(what, want, (Trumpvault) null, x -> call.run());
     }
 
     private static int[] wrongCards(int count) {
@@ -86,10 +34,10 @@ public final class PromiseTest {
     private static void testMint() {
         Trumpvault x = new Trumpvault();
         for (int card = 0; card < 30; card++) {
-            for (int player : WRONG_PLAYERS) {
+            for (int player : NO_PLAYERS) {
                 refused("mint of a wrong player", INDEX, () -> x.mint(player, 0));
             }
-            for (int kind : WRONG_KINDS) {
+            for (int kind : NO_KINDS) {
                 refused("mint of a wrong kind", INDEX, () -> x.mint(0, kind));
             }
             due("mint", x.mint(card % 5, card % 8), card);
@@ -107,7 +55,7 @@ public final class PromiseTest {
 
     // Promises 3, 4, 5 and 6
     private static void testCardQuestions() {
-        Trumpvault x = oneCardEach();
+        Trumpvault x = Worlds.oneEach();
         for (int card : wrongCards(5)) {
             refused("owner of a wrong card", INDEX, () -> x.owner(card));
             refused("ownerByHistory of a wrong card", INDEX, () -> x.ownerByHistory(card));
@@ -147,23 +95,9 @@ public final class PromiseTest {
         }
     }
 
-    /** The longest history that 512 calls can make. */
-    private static void testLongHistory() {
-        Trumpvault x = new Trumpvault();
-        x.mint(0, 0);
-        x.mint(1, 0);
-        for (int round = 0; round < 254; round++) {
-            x.swap(0, 1);
-            x.agree(0);
-        }
-        x.swap(1, 0);
-        x.agree(1);
-        owners(x, 1, 0);
-    }
-
     /** After its 512 calls an object may refuse what it likes, but no index may run out of an array. */
     private static void testFarTooManyCalls() {
-        Trumpvault x = oneCardEach();
+        Trumpvault x = Worlds.oneEach();
         for (int round = 0; round < 1000; round++) {
             try {
                 x.swap(2, 3);
@@ -194,8 +128,8 @@ public final class PromiseTest {
 
     // Promise 7
     private static void testCoins() {
-        Trumpvault x = alike();
-        for (int player : WRONG_PLAYERS) {
+        Trumpvault x = Worlds.alike();
+        for (int player : NO_PLAYERS) {
             refused("coins of a wrong player", INDEX, () -> x.coins(player));
         }
         x.bid(0, 1, 60);
@@ -215,7 +149,7 @@ public final class PromiseTest {
 
     // Promise 8
     private static void testSell() {
-        Trumpvault x = alike();
+        Trumpvault x = Worlds.alike();
         for (int card : wrongCards(5)) {
             refused("sell of a wrong card", INDEX, () -> x.sell(card, 0));
         }
@@ -236,7 +170,7 @@ public final class PromiseTest {
     }
 
     private static void testSellMeetsBid() {
-        Trumpvault x = alike();
+        Trumpvault x = Worlds.alike();
         x.bid(0, 3, 50);
         x.bid(1, 3, 20);
         x.bid(2, 3, 30);
@@ -262,7 +196,7 @@ public final class PromiseTest {
 
     /** A bid made again has a new number, behind those that stand. */
     private static void testBidNumbers() {
-        Trumpvault x = alike();
+        Trumpvault x = Worlds.alike();
         x.bid(0, 3, 9);
         x.bid(1, 3, 9);
         x.cancelBid(0, 3);
@@ -273,7 +207,7 @@ public final class PromiseTest {
 
     /** Of sales of one price the one that was made earlier is met, whatever the numbers of the cards. */
     private static void testSaleNumbers() {
-        Trumpvault x = alike();
+        Trumpvault x = Worlds.alike();
         x.sell(1, 9);
         x.sell(3, 9);
         x.sell(2, 9);
@@ -288,7 +222,7 @@ public final class PromiseTest {
     }
 
     private static void testSellBanned() {
-        Trumpvault x = alike();
+        Trumpvault x = Worlds.alike();
         x.ban(3, 1);
         due("sell before the ban", x.sell(0, 5), 0);
         x.pass(1);
@@ -300,11 +234,11 @@ public final class PromiseTest {
 
     // Promise 9
     private static void testBid() {
-        Trumpvault x = alike();
-        for (int player : WRONG_PLAYERS) {
+        Trumpvault x = Worlds.alike();
+        for (int player : NO_PLAYERS) {
             refused("bid of a wrong player", INDEX, () -> x.bid(player, 0, 0));
         }
-        for (int kind : WRONG_KINDS) {
+        for (int kind : NO_KINDS) {
             refused("bid for a wrong kind", INDEX, () -> x.bid(0, kind, 0));
         }
         for (int price : new int[] {0, -1, 1001, Integer.MIN_VALUE, Integer.MAX_VALUE}) {
@@ -325,7 +259,7 @@ public final class PromiseTest {
     }
 
     private static void testBidMeetsSale() {
-        Trumpvault x = alike();
+        Trumpvault x = Worlds.alike();
         x.mint(0, 2);
         x.sell(0, 10);
         x.sell(4, 20);
@@ -350,7 +284,7 @@ public final class PromiseTest {
 
     // Promises 10 and 11
     private static void testCancel() {
-        Trumpvault x = alike();
+        Trumpvault x = Worlds.alike();
         for (int card : wrongCards(5)) {
             refused("cancelSale of a wrong card", INDEX, () -> x.cancelSale(card));
         }
@@ -365,10 +299,10 @@ public final class PromiseTest {
         due("no sale after cancelSale", x.leastSale(3), NONE);
         refused("cancelSale again", STATE, () -> x.cancelSale(2));
 
-        for (int player : WRONG_PLAYERS) {
+        for (int player : NO_PLAYERS) {
             refused("cancelBid of a wrong player", INDEX, () -> x.cancelBid(player, 0));
         }
-        for (int kind : WRONG_KINDS) {
+        for (int kind : NO_KINDS) {
             refused("cancelBid of a wrong kind", INDEX, () -> x.cancelBid(0, kind));
         }
         x.bid(1, 6, 33);
@@ -383,8 +317,8 @@ public final class PromiseTest {
 
     // Promises 12 and 13
     private static void testBestPrices() {
-        Trumpvault x = alike();
-        for (int kind : WRONG_KINDS) {
+        Trumpvault x = Worlds.alike();
+        for (int kind : NO_KINDS) {
             refused("leastSale of a wrong kind", INDEX, () -> x.leastSale(kind));
             refused("greatestBid of a wrong kind", INDEX, () -> x.greatestBid(kind));
         }
@@ -412,7 +346,7 @@ public final class PromiseTest {
 
     // Promise 14
     private static void testSwap() {
-        Trumpvault x = oneCardEach();
+        Trumpvault x = Worlds.oneEach();
         x.mint(0, 7);
         for (int card : wrongCards(6)) {
             refused("swap of a wrong card", INDEX, () -> x.swap(card, 0));
@@ -437,7 +371,7 @@ public final class PromiseTest {
 
     // Promise 15
     private static void testAgree() {
-        Trumpvault x = oneCardEach();
+        Trumpvault x = Worlds.oneEach();
         for (int card : wrongCards(5)) {
             refused("agree to a wrong card", INDEX, () -> x.agree(card));
         }
@@ -468,14 +402,14 @@ public final class PromiseTest {
 
     /** The other card may get another owner between the swap told and the agreement. */
     private static void testAgreeAfterOwnersChanged() {
-        Trumpvault x = oneCardEach();
+        Trumpvault x = Worlds.oneEach();
         x.swap(0, 1);
         x.swap(2, 1);
         due("agree to the second swap", x.agree(2), 1);
         due("agree with the new owner", x.agree(0), 1);
         owners(x, 2, 0, 1, 3, 4);
 
-        Trumpvault y = oneCardEach();
+        Trumpvault y = Worlds.oneEach();
         y.swap(0, 1);
         y.sell(1, 5);
         y.bid(0, 1, 5);
@@ -487,7 +421,7 @@ public final class PromiseTest {
 
     // Promise 16
     private static void testCancelSwap() {
-        Trumpvault x = oneCardEach();
+        Trumpvault x = Worlds.oneEach();
         for (int card : wrongCards(5)) {
             refused("cancelSwap of a wrong card", INDEX, () -> x.cancelSwap(card));
         }
@@ -507,11 +441,11 @@ public final class PromiseTest {
 
     // Promise 17
     private static void testLend() {
-        Trumpvault x = oneCardEach();
+        Trumpvault x = Worlds.oneEach();
         for (int card : wrongCards(5)) {
             refused("lend of a wrong card", INDEX, () -> x.lend(card, 1, 0));
         }
-        for (int player : WRONG_PLAYERS) {
+        for (int player : NO_PLAYERS) {
             refused("lend to a wrong player", INDEX, () -> x.lend(0, player, 0));
         }
         for (int days : new int[] {0, -1, 51, Integer.MIN_VALUE, Integer.MAX_VALUE}) {
@@ -546,8 +480,8 @@ public final class PromiseTest {
 
     // Promise 18
     private static void testBan() {
-        Trumpvault x = alike();
-        for (int kind : WRONG_KINDS) {
+        Trumpvault x = Worlds.alike();
+        for (int kind : NO_KINDS) {
             refused("ban of a wrong kind", INDEX, () -> x.ban(kind, -1));
         }
         x.pass(10);
@@ -588,8 +522,8 @@ public final class PromiseTest {
 
     // Promises 19 and 20
     private static void testLift() {
-        Trumpvault x = alike();
-        for (int kind : WRONG_KINDS) {
+        Trumpvault x = Worlds.alike();
+        for (int kind : NO_KINDS) {
             refused("lift of a wrong kind", INDEX, () -> x.lift(kind));
             refused("isBanned of a wrong kind", INDEX, () -> x.isBanned(kind));
         }
@@ -613,7 +547,7 @@ public final class PromiseTest {
 
     // Promise 21
     private static void testPass() {
-        Trumpvault x = alike();
+        Trumpvault x = Worlds.alike();
         for (int days : new int[] {0, -1, 101, Integer.MIN_VALUE, Integer.MAX_VALUE}) {
             refused("pass of wrong days", ARGUMENT, () -> x.pass(days));
         }
@@ -664,7 +598,7 @@ public final class PromiseTest {
         for (int card = 0; card < 30; card++) {
             x.mint(0, card % 8);
         }
-        for (int player : WRONG_PLAYERS) {
+        for (int player : NO_PLAYERS) {
             refused("toggleDeck of a wrong player", INDEX, () -> x.toggleDeck(player, 0));
             refused("isRight of a wrong player", INDEX, () -> x.isRight(player));
             refused("strength of a wrong player", INDEX, () -> x.strength(player));
@@ -691,7 +625,7 @@ public final class PromiseTest {
     }
 
     private static void testIsRight() {
-        Trumpvault x = oneCardEach();
+        Trumpvault x = Worlds.oneEach();
         x.toggleDeck(0, 0);
         x.toggleDeck(1, 0);
         due("isRight of the owner", x.isRight(0), true);
@@ -724,12 +658,12 @@ public final class PromiseTest {
 
     // Promise 25
     private static void testPlay() {
-        Trumpvault x = oneCardEach();
+        Trumpvault x = Worlds.oneEach();
         x.mint(4, 3);
         x.toggleDeck(2, 2);
         x.toggleDeck(3, 3);
         x.toggleDeck(4, 5);
-        for (int player : WRONG_PLAYERS) {
+        for (int player : NO_PLAYERS) {
             refused("play of a wrong player", INDEX, () -> x.play(player, 2));
             refused("play against a wrong player", INDEX, () -> x.play(2, player));
             refused("play of a wrong player alone", INDEX, () -> x.play(player, player));
@@ -754,47 +688,34 @@ public final class PromiseTest {
         refused("play against a banned card", STATE, () -> x.play(2, 3));
     }
 
-    private static void testConstants() {
-        due("NONE", Trumpvault.NONE, -1);
-        due("FREE", Trumpvault.FREE, 0);
-        due("OFFERED", Trumpvault.OFFERED, 1);
-        due("SWAPPING", Trumpvault.SWAPPING, 2);
-        due("LENT", Trumpvault.LENT, 3);
-    }
-
     public static void main(String[] args) {
-        testConstants();
-        testNewObject();
-        testMint();
-        testCardQuestions();
-        testLongHistory();
-        testFarTooManyCalls();
-        testMostCards();
-        testCoins();
-        testSell();
-        testSellMeetsBid();
-        testBidNumbers();
-        testSaleNumbers();
-        testSellBanned();
-        testBid();
-        testBidMeetsSale();
-        testCancel();
-        testBestPrices();
-        testSwap();
-        testAgree();
-        testAgreeAfterOwnersChanged();
-        testCancelSwap();
-        testLend();
-        testBan();
-        testLift();
-        testPass();
-        testPassToBansOfAllKinds();
-        testToggleDeck();
-        testIsRight();
-        testPlay();
-        System.out.println(wrong == 0 ? "all answers are as due" : wrong + " answers are wrong");
-        if (wrong > 0) {
-            System.exit(1);
-        }
+        test("new object", PromiseTest::testNewObject);
+        test("mint", PromiseTest::testMint);
+        test("card questions", PromiseTest::testCardQuestions);
+        test("far too many calls", PromiseTest::testFarTooManyCalls);
+        test("most cards", PromiseTest::testMostCards);
+        test("coins", PromiseTest::testCoins);
+        test("sell", PromiseTest::testSell);
+        test("sell meets bid", PromiseTest::testSellMeetsBid);
+        test("bid numbers", PromiseTest::testBidNumbers);
+        test("sale numbers", PromiseTest::testSaleNumbers);
+        test("sell banned", PromiseTest::testSellBanned);
+        test("bid", PromiseTest::testBid);
+        test("bid meets sale", PromiseTest::testBidMeetsSale);
+        test("cancel", PromiseTest::testCancel);
+        test("best prices", PromiseTest::testBestPrices);
+        test("swap", PromiseTest::testSwap);
+        test("agree", PromiseTest::testAgree);
+        test("agree after owners changed", PromiseTest::testAgreeAfterOwnersChanged);
+        test("cancel swap", PromiseTest::testCancelSwap);
+        test("lend", PromiseTest::testLend);
+        test("ban", PromiseTest::testBan);
+        test("lift", PromiseTest::testLift);
+        test("pass", PromiseTest::testPass);
+        test("pass to bans of all kinds", PromiseTest::testPassToBansOfAllKinds);
+        test("toggle deck", PromiseTest::testToggleDeck);
+        test("is right", PromiseTest::testIsRight);
+        test("play", PromiseTest::testPlay);
+        end();
     }
 }
