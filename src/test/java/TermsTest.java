@@ -6,7 +6,8 @@ public final class TermsTest extends Check {
     public static void main(String[] args) {
         test("Terms: the constants", TermsTest::constants);
         test("What it is: at most 512 calls", TermsTest::lastCall);
-        test("What it is: at most 512 calls, each by far the longest", TermsTest::lastDay);
+        test("What it is: at most 512 calls, all but the last of them moving cards", TermsTest::mostMoves);
+        test("What it is: at most 512 calls, nearly all of them passing the most days", TermsTest::lastDay);
         test("Terms: the players 0 to 4", TermsTest::players);
         test("Terms: the kinds 0 to 7", TermsTest::kinds);
         test("Terms: each kind with each player", TermsTest::kindsOfPlayers);
@@ -67,7 +68,7 @@ public final class TermsTest extends Check {
         due("LENT", Trumpvault.LENT, 3);
     }
 
-    /** Two cards that change their owners as often as 512 calls can make them, the last call being the question. */
+    /** 510 calls: two cards that change their owners again and again. */
     private static Trumpvault swapped510() {
         Trumpvault x = new Trumpvault();
         x.mint(0, 0);
@@ -97,6 +98,33 @@ public final class TermsTest extends Check {
         due("call 510: owner(0)", odd.owner(0), 1);
         due("call 511: ownerByHistory(0)", odd.ownerByHistory(0), 1);
         due("call 512: ownerByHistory(1)", odd.ownerByHistory(1), 0);
+    }
+
+    /** 511 calls make 511 moves of cards, and the last of them is still found. */
+    private static void mostMoves() {
+        for (int card = 0; card < 3; card++) {
+            Trumpvault x = new Trumpvault();
+            for (int player = 0; player < 3; player++) {
+                x.mint(player, 0);
+            }
+            for (int round = 0; round < 254; round++) {
+                x.swap(0, 1 + round % 2);
+                x.agree(0);
+            }
+            due("call 512: ownerByHistory(" + card + ")", x.ownerByHistory(card), ringOwner(card, 254));
+        }
+    }
+
+    /** Who owns a card when card 0 was swapped in turn with card 1 and with card 2, so many times in all. */
+    private static int ringOwner(int card, int swaps) {
+        int[] owners = {0, 1, 2};
+        for (int round = 0; round < swaps; round++) {
+            int other = 1 + round % 2;
+            int first = owners[0];
+            owners[0] = owners[other];
+            owners[other] = first;
+        }
+        return owners[card];
     }
 
     private static void lastDay() {

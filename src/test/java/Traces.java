@@ -196,7 +196,7 @@ final class Traces {
         }
     }
 
-    /** Cards of the player 2, the newest or any that there are, are sold to the best bids one after the other. */
+    /** New cards of the player 2, and then all that can be sold, go to the best bids one after the other. */
     private static void orderOfBids(Trumpvault x, Trace trace) {
         int[] kinds = {3, 3, 3, 4, 6};
         for (int kind : kinds) {
